@@ -1059,8 +1059,17 @@ public final class OneLine {
                 return fail(TOO_MANY, at);
             }
             passWord();
-            boolean read = word == MEASURE ? measure() : tested(word == MOTTO);
-            return read && expectSign(';');
+            if (word == MEASURE) {
+                return measure() && expectSign(';');
+            }
+            int from = book.length;
+            firstFact = word == MOTTO ? DELAY : GAP;
+            factStop = word == MOTTO ? MIN : DELAY;
+            if (word == MOTTO && !name() || !expect(WHEN) || !test() || !expectSign(';')) {
+                return false;
+            }
+            book.close(word == MOTTO, from);
+            return true;
         }
 
         private boolean measure() {
@@ -1069,17 +1078,6 @@ public final class OneLine {
                 return false;
             }
             book.measure = measure;
-            return true;
-        }
-
-        private boolean tested(boolean motto) {
-            int from = book.length;
-            firstFact = motto ? DELAY : GAP;
-            factStop = motto ? MIN : DELAY;
-            if (motto && !name() || !expect(WHEN) || !test()) {
-                return false;
-            }
-            book.close(motto, from);
             return true;
         }
 
@@ -1145,10 +1143,6 @@ public final class OneLine {
                 book.emit(1);
                 return expect(ALL);
             }
-            return comparison();
-        }
-
-        private boolean comparison() {
             if (!sum()) {
                 return false;
             }
@@ -1307,34 +1301,24 @@ public final class OneLine {
             while (wordStop < tape.length && isLetter(tape.at(wordStop))) {
                 wordStop++;
             }
-            for (int word = 0; word * CELL < WORDS.length(); word++) {
-                if (isWord(word)) {
-                    return word;
+            for (int cell = 0; cell + CELL <= WORDS.length() && wordStop - at <= CELL; cell += CELL) {
+                int same = 0;
+                while (same < CELL && WORDS.charAt(cell + same) == (at + same < wordStop ? tape.at(at + same) : ' ')) {
+                    same++;
+                }
+                if (same == CELL) {
+                    return cell / CELL;
                 }
             }
             return NONE;
         }
 
-        private boolean isWord(int word) {
-            int length = wordStop - at;
-            if (length > CELL || (word + 1) * CELL > WORDS.length()) {
-                return false;
-            }
-            for (int k = 0; k < CELL; k++) {
-                int due = WORDS.charAt(word * CELL + k);
-                if (due != (k < length ? tape.at(at + k) : ' ')) {
-                    return false;
-                }
-            }
-            return true;
-        }
-
         /** The next byte that is no blank, NONE behind the last. */
         private int peek() {
-            while (at < tape.length && (tape.at(at) == ' ' || tape.at(at) == '\n')) {
+            while (at < tape.length && (tape.bytes[at] == ' ' || tape.bytes[at] == '\n')) {
                 at++;
             }
-            return tape.at(at);
+            return at < tape.length ? tape.bytes[at] : NONE;
         }
 
         private boolean fail(int kind, int where) {
