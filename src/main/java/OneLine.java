@@ -518,7 +518,7 @@ public final class OneLine {
             ways.weigh(book);
             ways.ready = true;
         }
-        if (voices > 2 && !sets.ready) {
+        if ((voices == 3 || voices == 4) && !sets.ready) {
             sets.build(line, book, ways, judge, duet);
             sets.ready = true;
         }
@@ -832,7 +832,6 @@ public final class OneLine {
             rules = 0;
             mottos = 0;
             measure = USUAL_MEASURE;
-            Arrays.fill(letters, 0);
         }
 
         void emit(int word) {
@@ -1338,15 +1337,13 @@ public final class OneLine {
 
     /** One follower (the leader, too): how it sings a line. */
     private static final class Voice {
-        private int code;
         private int delay;
         private int high;
         private int mirror;
         private int back;
         private int pace;
 
-        void take(int newCode) {
-            code = newCode;
+        void take(int code) {
             delay = code / (HIGHS * KINDS);
             high = code / KINDS % HIGHS - HIGHEST;
             mirror = code / 6 % 2;

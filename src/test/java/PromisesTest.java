@@ -417,6 +417,10 @@ public final class PromisesTest {
         due("silent ahead", x.breach(84, 96, 0), 4);
         x = with("step 4 for 2; step 4 for 2;", "bad when beat = 2;");
         due("the same step begins again", x.breach(84, 96, 0), 2);
+        x = with(ARCH, "measure 3; bad when beat = 1;");
+        due("a measure of 3", x.breach(84, 444, 0), 4);
+        book(x, "measure 12; bad when beat = 6;");
+        due("a measure of 12", x.breach(84, 444, 0), 6);
         x = with("step 4 for 4;", "bad when beat = 2;");
         due("a note goes on", x.breach(84, 96, 0), NONE);
     }
@@ -707,6 +711,14 @@ public final class PromisesTest {
         due("by the second", x.rule(1, false), 1);
         due("without the first: 72 more", x.rule(0, true), 3);
         due("without the second: 276 more", x.rule(1, true), 3);
+        line(x, "step 0 for 2; step 1 for 2;");
+        x.bounds(0, 2, 0);
+        book(x, "bad when gap = 1 and beat = 0; bad when gap = 1 and beat = 2;");
+        due("all of gap 1 are broken by both", x.rule(0, false), 2);
+        due("so none is spared", x.rule(0, true), 2);
+        book(x, "bad when was = 1;");
+        due("sort in the tick ahead is by the height, too", x.ways(2), 2);
+        due("they are two away", x.way(2, 0, 0) * 10000 + x.way(2, 1, 0), 600108);
         line(x, "step 0 for 2; step 0 for 1;");
         x.bounds(0, 1, 8);
         book(x, "bad when all;");
@@ -762,6 +774,10 @@ public final class PromisesTest {
         due("make(276, 2, 0)", x.make(276, 2, 0), 0);
         due("make(276, 6, 4)", x.make(276, 6, 4), 1);
         due("0 2 0 2 0 2", x.note(5, 0) * 100 + x.note(4, 0) * 10 + x.has(0), 206);
+        book(x, "bad when rise < 0 or rise > 0;");
+        due("no two alike", x.make(96, 2, 4), 0);
+        due("the line stays", x.has(0), 6);
+        book(x, "bad when gap = 0;");
         int[][] none = {{84, 2, 2}, {-1, 2, 2}, {4500, 2, 2}, {276, 0, 2}, {276, 7, 2}, {276, 2, -1}, {276, 2, 5}};
         for (int[] row : none) {
             due("make(" + row[0] + ", " + row[1] + ", " + row[2] + ")", x.make(row[0], row[1], row[2]), NONE);
@@ -825,6 +841,10 @@ public final class PromisesTest {
         due("the line stays", x.note(0, 0) * 100 + x.note(1, 0) * 10 + x.note(2, 0), -99);
         x.change(2, 2);
         due("mended", x.wrong(444, -1), NONE);
+        book(x, "bad when gap < 20;");
+        due("one alone is changed", x.wrong(444, -1), 16);
+        due("note 1: from 22 on", x.wrong(444, 0), 122);
+        due("note 2: from 20 on", x.wrong(444, 7), 220);
         book(x, "bad when all;");
         due("none mends it", x.wrong(444, -1), 0);
         due("none mends it", x.wrong(444, 0), NONE);
