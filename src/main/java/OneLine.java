@@ -1598,8 +1598,8 @@ public final class OneLine {
         private final int[] breaches = new int[MOST_RULES];
         /** Of each rule how many break no other one. */
         private final int[] spared = new int[MOST_RULES];
-        /** Which codes of one delay are ways. */
-        private final boolean[] free = new boolean[HIGHS * KINDS];
+        /** Of the codes of one delay: 1, if it is a way. */
+        private final int[] free = new int[HIGHS * KINDS];
         private final int[] tally = new int[MASKS];
         private final int[] facts = new int[5];
         private final Voice voice = new Voice();
@@ -1619,7 +1619,7 @@ public final class OneLine {
             Arrays.fill(breaches, 0);
             Arrays.fill(spared, 0);
             for (int delay = 0; delay <= latest; delay++) {
-                Arrays.fill(free, false);
+                Arrays.fill(free, 0);
                 for (int kind = 0; kind < KINDS; kind++) {
                     int level = OneLine.codeOf(delay, 0, kind);
                     if (!allows(kind) || !canBe(line, level)) {
@@ -1649,7 +1649,7 @@ public final class OneLine {
                 all |= verdict;
             }
             if (all == 0) {
-                free[Math.floorMod(code, HIGHS * KINDS)] = true;
+                free[Math.floorMod(code, HIGHS * KINDS)] = 1;
                 return;
             }
             for (int rule = 0; rule < MOST_RULES; rule++) {
@@ -1660,7 +1660,7 @@ public final class OneLine {
 
         private void gather(int delay) {
             for (int i = 0; i < free.length; i++) {
-                if (free[i] && count < CODES) {
+                if (free[i] == 1 && count < CODES) {
                     codes[count] = delay * HIGHS * KINDS + i;
                     count++;
                 }

@@ -493,6 +493,19 @@ public final class EdgesOfTextsTest {
         Edge.due("an empty tape is an empty line", x.line(), 0);
         Edge.due("an empty tape is an empty book", x.book(), 0);
         Edge.due("an empty tape is no image", x.on(), false);
+        x = new OneLine();
+        Edge.due("a line without a book", Edge.line(x, "step 0 for 2; step 1 for 2;"), 2);
+        Edge.due("breaks no rule", x.breach(84, 264, 0), NONE);
+        Edge.due("nor in a round", x.round(264), NONE);
+        Edge.due("all are ways", x.ways(2), 80);
+        Edge.due("nothing is wrong", x.wrong(264, NONE), NONE);
+        Edge.due("richest", x.richest(2, 1, 0), 80);
+        Edge.due("make", x.make(264, 2, 1), 1);
+        x = new OneLine();
+        Edge.due("a book without a line", Edge.book(x, "bad when all; motto a when high = 0;"), 2);
+        Edge.due("breaks nothing", x.breach(84, 264, 0), NONE);
+        Edge.due("all are ways", x.ways(2), 80);
+        Edge.due("some are meant", x.means(0, NONE), 8);
         Edge.says(Edge.TERMS, "(mirror 1, back 2, pace one half 4, double 8 may be; D 8, S 4, none at first)");
         x = new OneLine();
         Edge.due("D", x.has(7), 8);
@@ -618,9 +631,49 @@ public final class EdgesOfTextsTest {
         Edge.due("another rule", x.breach(84, Edge.code(0, 2, 0, 0, 0), 0), 0);
         Edge.due("an empty tape", x.book(), 0);
         Edge.due("no rules, a measure of 4", x.has(3) * 10 + x.has(5), 4);
+        earlierBooks();
         Edge.says(5, "THE LINE and THE BOUNDS stay.");
         Edge.due("notes", x.has(0) * 100 + x.has(1) * 10 + x.has(2), 216);
         Edge.due("bounds", x.has(7) * 100 + x.has(8) * 10 + x.has(9), 321);
+    }
+
+    /** Of a book nothing is left when another one comes, however many came ahead. */
+    private static void earlierBooks() {
+        OneLine x = Edge.with("step 0 for 2;", "");
+        x.bounds(2, 1, 0);
+        String many = "bad when not all; bad when all; motto a when not all; motto b when all; motto c when delay = 2 and high = 0;";
+        String few = "bad when not not not all; motto a when not [delay = 1];";
+        for (int n = 0; n < 3; n++) {
+            Edge.due("many", Edge.book(x, many), 5);
+            Edge.due("those that never meet", x.ways(2), 3);
+            Edge.due("delay 2, high 0", x.mottos(1), 4);
+            for (int i = 0; i <= n; i++) {
+                Edge.due("few", Edge.book(x, few), 2);
+                Edge.due("ways of it", x.ways(2), 8);
+                Edge.due("no second rule", x.rule(1, false), NONE);
+                Edge.due("no second motto", x.means(1, NONE), NONE);
+                Edge.due("nothing leaves one", x.mottos(6), NONE);
+                Edge.due("no letters of it", x.letter(1, 0), NONE);
+            }
+        }
+        Edge.book(x, many);
+        Edge.book(x, many);
+        Edge.due("a faulty one", Edge.book(x, "bad when gap = 5; x"), NONE);
+        Edge.due("and none", Edge.book(x, ""), 0);
+        Edge.due("all are ways", x.ways(2), 8);
+        Edge.due("without a motto", x.mottos(6), NONE);
+        x.bounds(2, 0, 0);
+        // held where the second rule and the second motto of the first book were, parts of the last book's tests would hold
+        Edge.book(x, "bad when all; bad when all; motto a when all; motto b when delay = 2;");
+        Edge.book(x, "");
+        Edge.book(x, "bad when 0 = 1; motto a when not delay = 2;");
+        Edge.due("both are ways", x.ways(2), 2);
+        Edge.due("the first is meant", x.mottos(0), 1);
+        Edge.due("the second is not", x.mottos(1), NONE);
+        Edge.book(x, "bad when gap = 1; bad when gap = 1; motto xyzxyz when all;");
+        Edge.book(x, "");
+        Edge.book(x, "motto ab when all;");
+        Edge.due("no letter of a longer name", x.letter(0, 2) + x.letter(0, 5), 0);
     }
 
     /** How many ways are lower than the leader. */

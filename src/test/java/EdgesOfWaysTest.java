@@ -1,3 +1,8 @@
+import java.util.LinkedHashMap;
+import java.util.Map;
+import java.util.function.Consumer;
+import java.util.function.ToIntFunction;
+
 /** The boundary cases of bounds and ways, signs and mottos, and of promises 18 to 30. */
 public final class EdgesOfWaysTest {
     private static final int NONE = Edge.NONE;
@@ -13,6 +18,7 @@ public final class EdgesOfWaysTest {
     public static void main(String[] args) {
         withinBounds();
         noBreach();
+        anew();
         sets();
         firstForty();
         fewestSigns();
@@ -53,19 +59,12 @@ public final class EdgesOfWaysTest {
 
     private static void withinBounds() {
         Edge.says(Edge.TERMS, "BOUNDS: delays 0 .. D, high -S .. S, kinds as bits (mirror 1, back 2, pace one half 4, double 8 may be;");
-        int[][] rows = {{0, 0, 0}, {1, 0, 0}, {0, 1, 0}, {1, 1, 1}, {1, 1, 2}, {1, 1, 4}, {1, 1, 8}, {1, 0, 12}, {0, 1, 15}};
-        for (int[] row : rows) {
-            OneLine x = bounded(TWO, "", row[0], row[1], row[2]);
-            int k = 0;
-            for (int c = 0; c < 360; c++) {
-                if (c != LEADER && isWithin(new OneLine(), c, row[0], row[1], row[2])) {
-                    Edge.due("way " + k, x.way(2, k, 0), c);
-                    k++;
-                }
-            }
-            Edge.due("no more", x.way(2, k, 0), NONE);
-            Edge.due("so many", x.ways(2), k);
+        for (int kinds = 0; kinds < 16; kinds++) {
+            allWithin(0, 0, kinds);
+            allWithin(1, 0, kinds);
+            allWithin(1, 1, kinds);
         }
+        allWithin(0, 2, 0);
         OneLine x = bounded(TWO, "", 24, 7, 15);
         Edge.due("the widest", x.ways(2), 4499);
         Edge.due("its first", x.way(2, 0, 0), 0);
@@ -73,6 +72,20 @@ public final class EdgesOfWaysTest {
         Edge.due("at the leader's place", x.way(2, 84, 0), 85);
         Edge.due("its last", x.way(2, 4498, 0), 4499);
         Edge.due("no more", x.way(2, 4499, 0), NONE);
+    }
+
+    /** Without rules all within the bounds are ways, but for the leader. */
+    private static void allWithin(int delay, int high, int kinds) {
+        OneLine x = bounded(TWO, "", delay, high, kinds);
+        int k = 0;
+        for (int c = 0; c < 360; c++) {
+            if (c != LEADER && isWithin(new OneLine(), c, delay, high, kinds)) {
+                Edge.due("way " + k + " within " + delay + ", " + high + ", " + kinds, x.way(2, k, 0), c);
+                k++;
+            }
+        }
+        Edge.due("no more", x.way(2, k, 0), NONE);
+        Edge.due("so many", x.ways(2), k);
     }
 
     private static void noBreach() {
@@ -91,21 +104,124 @@ public final class EdgesOfWaysTest {
         Edge.due("none sings", x.ways(2), 3);
         x.bounds(0, 0, 0);
         Edge.due("the leader alone", x.ways(2), 0);
-        OneLine y = bounded("step 0 for 2; step 1 for 2;", "bad when gap = 1 and beat = 2;", 2, 2, 3);
+        String[] tests = {"gap = 1 and beat = 2", "sort = 6 or gap = 3", "under = 1 and gap > 1", "was = 2", "was = 1 and under = 0",
+            "rise + climb > 2", "climb < 0 and gap < 3", "last = 1 and gap = 2", "rise > 0 and was < 7", "beat * gap > was + 2"};
+        String[] lines = {"step 0 for 2; step 3 for 2; rest for 2; step 1 for 4;", "step 5 for 1; step 4 for 1; step 7 for 2;"};
+        for (String line : lines) {
+            for (String test : tests) {
+                eachByItself(line, "bad when " + test + ";");
+            }
+        }
+    }
+
+    /** Those within the bounds of which breach() says that they have none, and no others. */
+    private static void eachByItself(String line, String book) {
+        OneLine x = bounded(line, book, 2, 2, 15);
         int k = 0;
+        OneLine one = null;
         for (int c = 0; c < 540; c++) {
-            boolean may = c != LEADER && isWithin(new OneLine(), c, 2, 2, 3);
-            if (may && breachOf(c) == NONE) {
-                Edge.due("way " + k, y.way(2, k, 0), c);
+            one = c % 50 == 0 ? Edge.with(line, book) : one;
+            if (c != LEADER && isWithin(one, c, 2, 2, 15) && one.follower(c, 5) == 1 && one.breach(LEADER, c, 0) == NONE) {
+                Edge.due("way " + k + " by " + book, x.way(2, k, 0), c);
                 k++;
             }
         }
-        Edge.due("so many", y.ways(2), k);
-        Edge.due("some are none", k > 0 && k < y.bounds(2, 2, 3), true);
+        Edge.due("so many by " + book, x.ways(2), k);
+        Edge.due("some are none by " + book, k > 0 && k < x.bounds(2, 2, 15), true);
     }
 
-    private static int breachOf(int code) {
-        return Edge.with("step 0 for 2; step 1 for 2;", "bad when gap = 1 and beat = 2;").breach(LEADER, code, 0);
+    private static final String FIRST_LINE = "step 0 for 2; step 2 for 2; step 4 for 2;";
+    private static final String FIRST_BOOK = "bad when gap = 1; bad when last = 1; motto a when delay > 0; motto b when high > 0;";
+
+    private static OneLine first() {
+        return bounded(FIRST_LINE, FIRST_BOOK, 3, 1, 3);
+    }
+
+    private static Map<String, ToIntFunction<OneLine>> calls() {
+        Map<String, ToIntFunction<OneLine>> calls = new LinkedHashMap<>();
+        for (int voices = 2; voices <= 4; voices++) {
+            int n = voices;
+            calls.put("ways(" + n + ")", x -> x.ways(n));
+            calls.put("way(" + n + ", 1, j)", x -> x.way(n, 1, n - 2));
+            calls.put("over(" + n + ", 1)", x -> x.over(n, 1));
+            calls.put("meant(" + n + ", 0)", x -> x.meant(n, 0));
+        }
+        for (int i = 0; i < 4; i++) {
+            int what = i;
+            calls.put("common(" + what + ")", x -> x.common(what));
+        }
+        calls.put("signs(1)", x -> x.signs(1));
+        calls.put("like(1, 1)", x -> x.like(1, 1));
+        calls.put("means(0, -1)", x -> x.means(0, NONE));
+        calls.put("means(0, 1)", x -> x.means(0, 1));
+        calls.put("mean(1)", x -> x.mean(1));
+        calls.put("mottos(0)", x -> x.mottos(0));
+        calls.put("alike(2)", x -> x.alike(2));
+        calls.put("unlike()", OneLine::unlike);
+        calls.put("rule(0, false)", x -> x.rule(0, false));
+        calls.put("rule(0, true)", x -> x.rule(0, true));
+        return calls;
+    }
+
+    /** What changes the line, the book or the bounds, and what leaves them. */
+    private static Map<String, Consumer<OneLine>> changes() {
+        Map<String, Consumer<OneLine>> changes = new LinkedHashMap<>();
+        changes.put("nothing", x -> { });
+        changes.put("line", x -> Edge.line(x, "step 0 for 2; step 1 for 2;"));
+        changes.put("an empty line", x -> Edge.line(x, ""));
+        changes.put("book", x -> Edge.book(x, "bad when gap = 2; motto a when high < 0;"));
+        changes.put("an empty book", x -> Edge.book(x, ""));
+        changes.put("bounds", x -> x.bounds(1, 2, 0));
+        changes.put("change", x -> x.change(1, 5));
+        changes.put("draw", x -> x.draw(5, 6, 7));
+        changes.put("make", x -> x.make(96, 3, 4));
+        changes.put("richest, the line is it", x -> x.richest(2, 2, 1));
+        changes.put("richest, the line stays", x -> x.richest(2, 2, 0));
+        changes.put("shortest", x -> x.shortest(96, 4));
+        changes.put("wrong", x -> x.wrong(96, NONE));
+        changes.put("a faulty line", x -> Edge.line(x, "step 9 for 1; x"));
+        changes.put("a faulty book", x -> Edge.book(x, "bad when all; x"));
+        changes.put("refused bounds", x -> x.bounds(1, 9, 0));
+        changes.put("breach", x -> x.breach(264, 96, 0));
+        changes.put("round", x -> x.round(264));
+        changes.put("image", OneLine::image);
+        changes.put("on", x -> onImage(x, 1, 3, 2));
+        changes.put("no image", x -> onImage(x, 1, 29, 2));
+        return changes;
+    }
+
+    /** An image of one note. */
+    private static void onImage(OneLine x, int... bytes) {
+        int c = 23;
+        StringBuilder text = new StringBuilder();
+        for (int b : bytes) {
+            c = (7 * c + b) % 251;
+            text.append((char) b);
+        }
+        x.end(0);
+        Texts.feed(x, text.append((char) c).toString());
+        x.on();
+    }
+
+    private static void anew() {
+        Edge.says(Edge.TERMS, "WAYS: of FOLLOWERS within THE BOUNDS,");
+        Map<String, ToIntFunction<OneLine>> calls = calls();
+        for (Map.Entry<String, Consumer<OneLine>> change : changes().entrySet()) {
+            for (Map.Entry<String, ToIntFunction<OneLine>> call : calls.entrySet()) {
+                OneLine told = first();
+                for (ToIntFunction<OneLine> each : calls.values()) {
+                    each.applyAsInt(told);
+                }
+                change.getValue().accept(told);
+                OneLine fresh = first();
+                change.getValue().accept(fresh);
+                Edge.due(call.getKey() + " behind " + change.getKey(), call.getValue().applyAsInt(told), call.getValue().applyAsInt(fresh));
+            }
+        }
+        OneLine x = first();
+        int ways = x.ways(2);
+        Edge.due("others have fewer or more", x.richest(1, 0, 0) != ways, true);
+        Edge.due("ways of the line all the same", x.ways(2), ways);
     }
 
     private static void sets() {
@@ -328,10 +444,38 @@ public final class EdgesOfWaysTest {
         for (int signs : others) {
             Edge.due("like(0, " + signs + ")", x.like(0, signs), NONE);
         }
+        for (int signs = 0; signs < 32; signs++) {
+            likeByHand(signs);
+        }
         for (int k : beside(71)) {
             Edge.due("like(" + k + ", 0)", x.like(k, 0), NONE);
             Edge.due("like(" + k + ", 31)", x.like(k, 31), NONE);
         }
+    }
+
+    /** Those that are like each other in some signs, by what follower() tells of them. */
+    private static void likeByHand(int signs) {
+        OneLine x = bounded("step 0 for 2; step 3 for 2;", "bad when gap = 1 or rise > 0 and climb > 0;", 1, 1, 15);
+        int n = x.ways(2);
+        int[][] parts = new int[n][5];
+        OneLine other = new OneLine();
+        for (int k = 0; k < n; k++) {
+            for (int what = 0; what < 5; what++) {
+                parts[k][what] = other.follower(x.way(2, k, 0), what);
+            }
+        }
+        for (int k = 0; k < n; k++) {
+            int due = 0;
+            for (int i = 0; i < n; i++) {
+                boolean same = true;
+                for (int what = 0; what < 5; what++) {
+                    same &= (signs >> what & 1) == 0 || parts[k][what] == parts[i][what];
+                }
+                due += same ? 1 : 0;
+            }
+            Edge.due("like(" + k + ", " + signs + ")", x.like(k, signs), due);
+        }
+        Edge.due("not all are ways", n > 10 && n < 71, true);
     }
 
     private static void means() {

@@ -72,6 +72,7 @@ public final class LanguageTest extends TreePathScanner<Void, Void> {
         LanguageTest test = new LanguageTest(task, unit);
         test.scan(unit, null);
         test.checkDepth();
+        test.checkNames();
         test.checkText(Files.readString(source.toPath()));
         if (test.classes.size() > 12) {
             test.faults.add("rule 11: " + test.classes.size() + " classes");
@@ -152,8 +153,27 @@ public final class LanguageTest extends TreePathScanner<Void, Void> {
 
     @Override
     public Void visitMethodInvocation(MethodInvocationTree tree, Void none) {
-        called(tree, trees.getElement(getCurrentPath()));
+        Element target = trees.getElement(getCurrentPath());
+        called(tree, target);
+        if (target.getEnclosingElement().toString().equals("java.util.Arrays") && target.toString().contains("boolean")) {
+            fault(4, tree, "Arrays over an array that is none of numbers");
+        }
         return super.visitMethodInvocation(tree, none);
+    }
+
+    /** No method that is not public bears the name of a public one. */
+    private void checkNames() {
+        Set<String> open = new HashSet<>();
+        for (Element each : calls.keySet()) {
+            if (each.getModifiers().contains(Modifier.PUBLIC) && each.getKind() == ElementKind.METHOD) {
+                open.add(each.getSimpleName().toString());
+            }
+        }
+        for (Element each : calls.keySet()) {
+            if (!each.getModifiers().contains(Modifier.PUBLIC) && open.contains(each.getSimpleName().toString())) {
+                faults.add("rule 1: a second method " + each);
+            }
+        }
     }
 
     @Override
